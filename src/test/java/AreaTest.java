@@ -41,6 +41,9 @@ public final class AreaTest {
         all(y, 7, 6, 4, 0);
         all(y, 5, 2, 1, 0);
         all(y, 6, 0, 0, 0);
+        AreaOrders z = Due.mapOf("m;p11;p11;p11;p11;p11;p11,012345,543210");
+        all(z, 7, 0, 1, 3, 7, 15, 31);
+        all(z, 8, 2, 5, 10, 20, 40, 16);
     }
 
     private static void touching() {

@@ -26,6 +26,7 @@ public final class DayTest {
         due.is("depth", day(x, 2, 0, 0, 1, 0, 2, 5), 4);
         due.is("waste", day(x, 3, 0, 1, 9), 48 - 4 - 9 - 6 - 1);
         due.is("twos", day(x, 4, 1, 0, 5), 4);
+        due.is("x of 0", day(x, 10, 0, 0, 1), 0);
         due.is("x of 3", day(x, 13, 0, 0, 1), 4);
         due.is("x of 4", day(x, 14, 0, 0, 1), -9);
         due.is("all stays", x.whole(0), 6);

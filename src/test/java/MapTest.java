@@ -5,6 +5,7 @@ public final class MapTest {
     public static void main(String[] args) {
         texts();
         firstFaults();
+        startsOfTexts();
         serials();
         refusals();
         faults();
@@ -57,6 +58,10 @@ public final class MapTest {
         text("m;p11", -105);
         text("m;p11m", -105);
         text("m;p11,", -106);
+        text("m;p11;,0,0", -106);
+        text("m;p11;p,0,0", -107);
+        text("m;p11;p1,0,0", -108);
+        text("m;p11;p10,0,0", -108);
         text("m;p11,1,0", -106);
         text("m;p11,0", -107);
         text("m;p11,00,0", -107);
@@ -74,6 +79,19 @@ public final class MapTest {
         text("m;p11;p11;p11;p11;p11;p11", -125);
         text("m;p11;p11;p11;p11;p11;p11,6", -126);
         text("m;p11;p11;p11;p11;p11;p11,012345,012345;", -139);
+    }
+
+    /** Codes behind the TEXT, or of one that was read ahead of it, are none of its own. */
+    private static void startsOfTexts() {
+        String text = "m;p42;b63;d52,201,021";
+        AreaOrders x = Due.mapOf(text);
+        for (int n = 0; n < text.length(); n++) {
+            due.is("the first " + n, x.map(3, 0, 0, n), -100 - n);
+        }
+        due.is("all", x.map(3, 0, 0, text.length()), 3);
+        for (int n = 0; n < text.length(); n++) {
+            due.is("just " + n, Due.read(x, text.substring(0, n)), -100 - n);
+        }
     }
 
     private static void serials() {

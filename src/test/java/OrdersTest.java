@@ -57,6 +57,13 @@ public final class OrdersTest {
         oddsAre(x, 23, 2, 3);
         oddsAre(x, 24, 1, 1);
         oddsAre(x, 9999, 1, 1);
+        // Five squares fill 5 in a row or in a column: two ORDERS of 120.
+        AreaOrders five = Due.mapOf("m;p11;p11;p11;p11;p11,43210,01234");
+        oddsAre(five, 4, 0, 1);
+        oddsAre(five, 5, 1, 60);
+        AreaOrders six = Due.mapOf("m;p11;p11;p11;p11;p11;p11,012345,012345");
+        oddsAre(six, 5, 0, 1);
+        oddsAre(six, 9999, 1, 1);
         due.is("all stays", x.whole(0), 8);
         due.is("order stays", x.ofArea(0, 12), 0);
         AreaOrders two = Due.mapOf("m;p44;p22,01,01");

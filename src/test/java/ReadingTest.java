@@ -57,6 +57,15 @@ public final class ReadingTest {
         due.is("both", x.widths(0), 1008);
         x.reading(0, 1);
         due.is("0 is on top", x.widths(0), 0);
+        x.back(1);
+        due.is("what was taken back counts no more", x.widths(0), 1008);
+        for (int k = 0; k < 6; k++) {
+            x.reading(0, 0);
+        }
+        due.is("eight", x.widths(0), 1008);
+        x.back(1);
+        x.reading(0, 1);
+        due.is("the eighth counts", x.widths(0), 0);
     }
 
     private static void changes() {

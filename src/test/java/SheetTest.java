@@ -13,8 +13,10 @@ public final class SheetTest {
     private static void rows() {
         AreaOrders x = new AreaOrders();
         due.is("sheet", x.sheet(0, 0, 60), 1);
+        due.is("first cell", x.put(0, 0, 7), 1);
         due.is("last cell", x.put(0, 59, 7), 1);
         due.is("a new row", x.sheet(0, 2, 60), 1);
+        due.is("0 at first", x.cell(0, 0, 2), 0);
         due.is("0 at first", x.cell(0, 59, 2), 0);
         due.is("size", x.sheet(0, 0, -1), -14);
         due.is("size", x.fault(), 4);
