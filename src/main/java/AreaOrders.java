@@ -251,10 +251,11 @@ public final class AreaOrders {
         if (readings >= MOST_READINGS) {
             return FULL;
         }
-        readArea[readings] = a;
-        readY[readings] = v;
-        readings++;
-        return readings;
+        int number = readings;
+        readArea[number] = a;
+        readY[number] = v;
+        readings = number + 1;
+        return number;
     }
 
     public int back(int n) {

@@ -603,8 +603,9 @@ final class Model {
             need(shape.has(a), UNKNOWN);
             need(v >= 0 && v <= 120, OUTSIDE);
             need(readings.size() < 8, FULL);
+            int before = readings.size();
             readings.add(new int[] {a, v});
-            return readings.size();
+            return before;
         });
     }
 

@@ -12,9 +12,9 @@ public final class ReadingTest {
 
     private static void numbers() {
         AreaOrders x = Due.mapOf("m;p11;p11,01,10");
-        for (int k = 1; k <= 8; k++) {
+        for (int k = 0; k < 8; k++) {
             due.is("reading", x.reading(0, 0), k);
-            due.is("readings", x.many(3), k);
+            due.is("readings", x.many(3), k + 1);
         }
         due.is("full", x.reading(0, 0), -4);
         due.is("outside, ahead of full", x.reading(0, 121), -2);
@@ -23,9 +23,14 @@ public final class ReadingTest {
         due.is("back", x.back(3), 5);
         due.is("too many back", x.back(6), -2);
         due.is("back -1", x.back(-1), -2);
-        due.is("reading", x.reading(1, 120), 6);
+        due.is("the number of one that was taken back", x.reading(1, 120), 5);
         due.is("all back", x.back(6), 0);
         due.is("one more back", x.back(1), -2);
+        due.is("from 0 on again", x.reading(0, 0), 0);
+        due.is("a refused one takes no number", x.reading(0, 121), -2);
+        due.is("the next one", x.reading(0, 0), 1);
+        Due.read(x, "m;p11;p11,01,10");
+        due.is("from 0 on by a new map", x.reading(1, 1), 0);
     }
 
     private static void kindsAndWidths() {
