@@ -96,6 +96,9 @@ public final class Boundary1Test {
         text("m;p11,0,0", 1);
         text(SIX + ",012345,012345", 6);
         text(SIX + ";p11,0123456,0123456", -125);
+        AreaOrders again = Due.mapOf("m;p11,0,0");
+        s.is("no AREAS behind a TEXT that has some", Due.read(again, "m,0,0"), -101);
+        s.is("fewer AREAS than a TEXT ahead of it", Due.read(Due.mapOf("m;p11;p11,01,01"), "m;p11,1,1"), -106);
         s.of(2, "numbered from 0 on");
         AreaOrders x = Due.mapOf("m;p32;b54,01,01");
         each(x, 1, 3, 5);
@@ -247,6 +250,7 @@ public final class Boundary1Test {
         each(x, 10, 1, 2);
         Due.read(x, "m;p11;p11;p11,012,012");
         each(x, 10, 13, 14, 15);
+        each(Due.mapOf(SIX + ",012345,543210"), 10, 1, 2, 3, 4, 5, 6);
         x.sheet(0, 0, 0);
         x.map(0, 0, 0, 0);
         x.map(0, 1, 0, 0);
@@ -267,6 +271,9 @@ public final class Boundary1Test {
             s.is("one less", x.map(lane, lane, 21, 38), -138);
             s.is("one ahead", x.map(lane, lane, 20, 40), -100);
             s.is("one late", x.map(lane, lane, 22, 38), -100);
+            Due.fill(x, lane, lane, Due.codes(text + "x".repeat(21)));
+            s.is("the first 39 of 60", x.map(lane, lane, 0, 39), 6);
+            s.is("all 60", x.map(lane, lane, 0, 60), -139);
         }
         AreaOrders one = new AreaOrders();
         Due.fill(one, 1, 1, Due.codes("m;p11,0,0,"));
@@ -340,12 +347,17 @@ public final class Boundary1Test {
         each(Due.mapOf("m;p11;p11,01,10"), 6, 0, 0);
         each(Due.mapOf("m;p11;p11,10,01"), 6, 0, 0);
         each(Due.mapOf("m;p11,0,0"), 6, 0);
+        each(Due.mapOf(SIX + ",012345,012345"), 6, 0, 1, 3, 7, 15, 31);
+        AreaOrders six = Due.mapOf(SIX + ",305142,043251");
+        each(six, 6, 0, 41, 25, 0, 1, 9);
         s.of(3, "it is ABOVE it, if it is ahead of it in ORDER 0 and behind it in ORDER 1");
         each(Due.mapOf("m;p11;p11,01,10"), 7, 0, 1);
         each(Due.mapOf("m;p11;p11,10,01"), 7, 2, 0);
         each(Due.mapOf("m;p11;p11,01,01"), 7, 0, 0);
         each(Due.mapOf("m;p11;p11,10,10"), 7, 0, 0);
         each(Due.mapOf("m;p11,0,0"), 7, 0);
+        each(Due.mapOf(SIX + ",012345,543210"), 7, 0, 1, 3, 7, 15, 31);
+        each(six, 7, 8, 0, 34, 0, 42, 0);
     }
 
     private void begins() {

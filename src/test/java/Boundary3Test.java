@@ -319,6 +319,12 @@ public final class Boundary3Test {
         s.is("lower of " + v, x.odds(v, 1), lower);
     }
 
+    /** Nothing is wasted by the row alone, and its ORDER is the last one of all. */
+    private void rowAlone(String text, int v, int orders) {
+        share(Due.mapOf(text), v, 1, orders);
+        share(Due.mapOf(text), v - 1, 0, 1);
+    }
+
     private void odds() {
         s.of(16, "ODDS of v: if ORDER 1 is any, all alike, the share of those by which BREADTH times DEPTH is v or less");
         // 012: 8 times 2; 021: 6 times 4; 102: 6 times 3; 120: 4 times 3; 201: 6 times 4; 210: 4 times 5.
@@ -333,6 +339,12 @@ public final class Boundary3Test {
         share(x, 23, 2, 3);
         share(x, 24, 1, 1);
         s.same("all stays", Seen.of(x), was);
+        rowAlone("m;p11,0,0", 1, 1);
+        rowAlone("m;p19;p11,10,01", 10, 2);
+        rowAlone("m;p19;p19;p11,210,012", 19, 6);
+        rowAlone("m;p19;p19;p19;p11,3210,0123", 28, 24);
+        rowAlone("m;p19;p19;p19;p19;p11,43210,01234", 37, 120);
+        rowAlone("m;p19;p19;p19;p19;p19;p11,543210,012345", 46, 720);
         s.of(16, "Shares are told as upper and lower number (above 0) in least terms");
         share(Due.mapOf("m;p11,0,0"), 0, 0, 1);
         share(Due.mapOf("m;p11,0,0"), 1, 1, 1);
