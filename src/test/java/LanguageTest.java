@@ -2,6 +2,8 @@ import java.io.IOException;
 import java.nio.file.Files;
 import java.nio.file.Path;
 import java.util.List;
+import java.util.Map;
+import java.util.TreeMap;
 import java.util.regex.Matcher;
 import java.util.regex.Pattern;
 
@@ -27,6 +29,7 @@ public final class LanguageTest {
         library(code);
         madeInConstructorsAlone(code);
         shortMethods(code);
+        callsGoEightDeep(code);
         due.end();
     }
 
@@ -59,5 +62,30 @@ public final class LanguageTest {
                 due.holds("too long: " + lines[k], length < 60);
             }
         }
+    }
+
+    /** No method's name stands in two classes of the file, so that a name tells which one is called. */
+    private static void callsGoEightDeep(String code) {
+        Map<String, String> bodies = new TreeMap<>();
+        Matcher method = Pattern.compile("(?sm)^( +)(?:[\\w\\[\\]]+ )+(\\w+)\\([^;()]*\\) \\{$(.*?)^\\1\\}$").matcher(code);
+        while (method.find()) {
+            due.holds("two methods " + method.group(2), bodies.put(method.group(2), method.group(3)) == null);
+        }
+        due.holds("the methods are found", bodies.size() > 26 && bodies.containsKey("lay"));
+        for (String name : bodies.keySet()) {
+            due.holds("at most eight deep: " + name, deepest(bodies, name, 1) <= 8);
+        }
+    }
+
+    /** One that calls itself, on whatever way, would be as deep as is looked. */
+    private static int deepest(Map<String, String> bodies, String name, int depth) {
+        int most = depth;
+        Matcher called = Pattern.compile("\\b(\\w+)\\(").matcher(bodies.getOrDefault(name, ""));
+        while (depth < 12 && called.find()) {
+            if (bodies.containsKey(called.group(1)) || called.group(1).matches("max|bitCount|arraycopy")) {
+                most = Math.max(most, deepest(bodies, called.group(1), depth + 1));
+            }
+        }
+        return most;
     }
 }
